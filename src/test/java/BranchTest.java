@@ -45,7 +45,7 @@ public final class BranchTest {
         check.spend("85 0", "99 100 82 103 83 104 103 84 104", "0 at -1 in 1 done 9: [4 5]");
         check.spend("81 81", "99 99 82 103 83 104 103 84 104", "0 at -1 in 1 done 9: [2]");
         check.spend("0 81", "99 99 82 103 83 104 103 84 104", "0 at -1 in 1 done 9: [3]");
-        // A branch opened in one that is not active stays closed when the outer ends are turned in order only.
+        // Behind the inner branch the outer one is turned as ever.
         check.spend("85 0", "99 99 103 104 103 84 104", "0 at -1 in 1 done 9: [4 5]");
     }
 

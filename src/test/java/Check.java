@@ -62,10 +62,12 @@ final class Check {
     /** The items from the top on, their bytes with points between, e for the empty one. */
     static String items(SpendScript x) {
         StringJoiner items = new StringJoiner(" ", "[", "]");
-        for (int k = 0; k < x.items(); k++) {
+        int count = x.items();
+        for (int k = 0; k < count; k++) {
             StringJoiner bytes = new StringJoiner(".");
             bytes.setEmptyValue("e");
-            for (int i = 0; i < x.itemLength(k); i++) {
+            int length = x.itemLength(k);
+            for (int i = 0; i < length; i++) {
                 bytes.add(Integer.toString(x.itemByte(k, i)));
             }
             items.add(bytes.toString());

@@ -10,6 +10,7 @@ public final class SignatureTest {
         wellFormed();
         severalSignatures();
         orderOfKeys();
+        whatIsNoKeyAndNoSignature();
         faultsOfSeveral();
         check.finish();
     }
@@ -167,6 +168,16 @@ public final class SignatureTest {
         several(row(S1, S2), row(K1, K2), false, S1, K2, S2, K1);
         several(row(S1, S2), row(K1, K2, K3), true, S2, K3, S2, K2, S1, K2);
         several(row(S1, S2), row(K1, K2, K3), false, S2, K2, S1, K2, S1, K3);
+    }
+
+    private static void whatIsNoKeyAndNoSignature() {
+        // The number of keys is no key, and the item below the signatures no signature.
+        several(row(S1), row(K2), false, S1, "1");
+        several(row(S1), row(K2, K3), false, S1, "2");
+        String[] pairs = {S1, K1, S2, K2};
+        due("90 " + push(S1) + " " + push(S2) + " 81 " + push(K1) + " " + push(K2) + " 82", "174",
+            "0 at -1 in 1 done 8: [1 10]", pairs);
+        due("90 " + push(S1) + " 0 " + push(K1) + " 81", "174", "0 at -1 in 1 done 6: [1 10]", pairs);
     }
 
     private static void faultsOfSeveral() {
