@@ -15,65 +15,41 @@ public final class SignatureTest {
         check.finish();
     }
 
-    private static int hash(String bytes) {
-        int h = 17;
-        for (String b : bytes.split(" ")) {
-            if (!b.isEmpty()) {
-                h = h * 31 + Integer.parseInt(b);
-            }
-        }
-        return h;
-    }
-
-    private static String push(String bytes) {
-        return bytes.isEmpty() ? "0" : bytes.split(" ").length + " " + bytes;
-    }
-
-    /** Spends with a table of signatures and keys by turns. */
-    private static void due(String unlocking, String locking, String want, String... pairs) {
-        SpendScript x = Check.fed(unlocking, locking);
-        for (int i = 0; i + 1 < pairs.length; i += 2) {
-            check.due("confirm", x.confirm(hash(pairs[i]), hash(pairs[i + 1])), true);
-        }
-        x.spend();
-        check.due("spend of <" + unlocking + "> <" + locking + ">", Check.outcome(x), want);
-    }
-
     private static void oneSignature() {
-        String both = "90 " + push(SIGNATURE) + " " + push(KEY);
-        due(both, "172", "0 at -1 in 1 done 4: [1 10]", SIGNATURE, KEY);
-        due(both, "172", "16 at 1 in 1 done 4: [e 10]");
-        due(both, "172", "16 at 1 in 1 done 4: [e 10]", KEY, SIGNATURE);
-        due(both, "172", "16 at 1 in 1 done 4: [e 10]", SIGNATURE, "20 22", "48 3 2 1 8 1", KEY);
-        due(both, "173", "0 at -1 in 1 done 4: [10]", SIGNATURE, KEY);
-        due(both, "173", "9 at 0 in 1 done 3: [20.21 48.3.2.1.7.1 10]");
-        due("90 " + push(KEY) + " " + push(SIGNATURE), "172", "16 at 1 in 1 done 4: [e 10]", SIGNATURE, KEY);
+        String both = "90 " + Check.push(SIGNATURE) + " " + Check.push(KEY);
+        check.spend(both, "172", "0 at -1 in 1 done 4: [1 10]", SIGNATURE, KEY);
+        check.spend(both, "172", "16 at 1 in 1 done 4: [e 10]");
+        check.spend(both, "172", "16 at 1 in 1 done 4: [e 10]", KEY, SIGNATURE);
+        check.spend(both, "172", "16 at 1 in 1 done 4: [e 10]", SIGNATURE, "20 22", "48 3 2 1 8 1", KEY);
+        check.spend(both, "173", "0 at -1 in 1 done 4: [10]", SIGNATURE, KEY);
+        check.spend(both, "173", "9 at 0 in 1 done 3: [20.21 48.3.2.1.7.1 10]");
+        check.spend("90 " + Check.push(KEY) + " " + Check.push(SIGNATURE), "172", "16 at 1 in 1 done 4: [e 10]", SIGNATURE, KEY);
         // Any item may be a key, the empty one too.
-        due("90 " + push(SIGNATURE) + " 0", "172", "0 at -1 in 1 done 4: [1 10]", SIGNATURE, "");
+        check.spend("90 " + Check.push(SIGNATURE) + " 0", "172", "0 at -1 in 1 done 4: [1 10]", SIGNATURE, "");
         // An empty signature is allowed and never valid.
-        due("90 0 " + push(KEY), "172", "16 at 1 in 1 done 4: [e 10]", "", KEY);
+        check.spend("90 0 " + Check.push(KEY), "172", "16 at 1 in 1 done 4: [e 10]", "", KEY);
     }
 
     private static void table() {
-        SpendScript x = Check.fed(push(SIGNATURE) + " " + push(KEY), "172");
+        SpendScript x = Check.fed(Check.push(SIGNATURE) + " " + Check.push(KEY), "172");
         for (int i = 0; i < 7; i++) {
             check.due("confirm " + i, x.confirm(1, 1), true);
         }
         check.due("spend", x.spend(), 16);
-        check.due("confirm the eighth", x.confirm(hash(SIGNATURE), hash(KEY)), true);
+        check.due("confirm the eighth", x.confirm(Check.h(SIGNATURE), Check.h(KEY)), true);
         check.due("spend", x.spend(), 0);
-        check.due("confirm a ninth", x.confirm(hash(SIGNATURE), 9), false);
+        check.due("confirm a ninth", x.confirm(Check.h(SIGNATURE), 9), false);
         check.due("clear(0)", x.clear(0), true);
         check.due("clear(1)", x.clear(1), true);
-        Check.feed(x, 0, push(SIGNATURE) + " " + push(KEY));
+        Check.feed(x, 0, Check.push(SIGNATURE) + " " + Check.push(KEY));
         Check.feed(x, 1, "173 81");
         check.due("spend: clear() leaves the table", x.spend(), 0);
 
-        SpendScript full = Check.fed(push(SIGNATURE) + " " + push(KEY), "172");
+        SpendScript full = Check.fed(Check.push(SIGNATURE) + " " + Check.push(KEY), "172");
         for (int i = 0; i < 8; i++) {
             check.due("confirm " + i, full.confirm(i, i), true);
         }
-        check.due("confirm a ninth", full.confirm(hash(SIGNATURE), hash(KEY)), false);
+        check.due("confirm a ninth", full.confirm(Check.h(SIGNATURE), Check.h(KEY)), false);
         check.due("spend: a pair that was refused is not there", full.spend(), 16);
     }
 
@@ -83,7 +59,7 @@ public final class SignatureTest {
 
     private static void formed(String signature, boolean well) {
         String want = well ? "0 at -1 in 1 done 3: [1]" : "16 at 1 in 1 done 3: [e]";
-        due(push(signature) + " " + push(KEY), "172", want, signature, KEY);
+        check.spend(Check.push(signature) + " " + Check.push(KEY), "172", want, signature, KEY);
     }
 
     private static void wellFormed() {
@@ -119,11 +95,11 @@ public final class SignatureTest {
     private static String stack(String[] signatures, String[] keys) {
         StringBuilder pushes = new StringBuilder("90 0");
         for (String signature : signatures) {
-            pushes.append(' ').append(push(signature));
+            pushes.append(' ').append(Check.push(signature));
         }
         pushes.append(' ').append(signatures.length == 0 ? 0 : 80 + signatures.length);
         for (String key : keys) {
-            pushes.append(' ').append(push(key));
+            pushes.append(' ').append(Check.push(key));
         }
         return pushes.append(' ').append(keys.length == 0 ? 0 : 80 + keys.length).toString();
     }
@@ -131,7 +107,7 @@ public final class SignatureTest {
     private static void several(String[] signatures, String[] keys, boolean valid, String... pairs) {
         int done = signatures.length + keys.length + 5;
         String want = valid ? "0 at -1 in 1 done " + done + ": [1 10]" : "16 at 1 in 1 done " + done + ": [e 10]";
-        due(stack(signatures, keys), "174", want, pairs);
+        check.spend(stack(signatures, keys), "174", want, pairs);
     }
 
     private static String[] row(String... items) {
@@ -175,13 +151,13 @@ public final class SignatureTest {
         several(row(S1), row(K2), false, S1, "1");
         several(row(S1), row(K2, K3), false, S1, "2");
         String[] pairs = {S1, K1, S2, K2};
-        due("90 " + push(S1) + " " + push(S2) + " 81 " + push(K1) + " " + push(K2) + " 82", "174",
+        check.spend("90 " + Check.push(S1) + " " + Check.push(S2) + " 81 " + Check.push(K1) + " " + Check.push(K2) + " 82", "174",
             "0 at -1 in 1 done 8: [1 10]", pairs);
-        due("90 " + push(S1) + " 0 " + push(K1) + " 81", "174", "0 at -1 in 1 done 6: [1 10]", pairs);
+        check.spend("90 " + Check.push(S1) + " 0 " + Check.push(K1) + " 81", "174", "0 at -1 in 1 done 6: [1 10]", pairs);
     }
 
     private static void faultsOfSeveral() {
-        String two = push(S1) + " " + push(K1);
+        String two = Check.push(S1) + " " + Check.push(K1);
         check.spend("", "174", "11 at 0 in 1 done 0: []");
         check.spend("5 7x5", "174", "12 at 0 in 1 done 1: [7.7.7.7.7]");
         check.spend("79", "174", "13 at 0 in 1 done 1: [129]");
@@ -207,6 +183,6 @@ public final class SignatureTest {
         // Numbers in longer forms are numbers too.
         check.spend("0 2 0 0 2 2 3 2 2 3 4 2 0 0 0", "174", "0 at -1 in 1 done 6: [1]");
         check.spend("82 0 2 0 128 3 0 0 0", "174", "0 at -1 in 1 done 5: [1 2]");
-        due("90 " + two, "107 0 124 81 108 81 174", "0 at -1 in 1 done 10: [1 10]", S1, K1);
+        check.spend("90 " + two, "107 0 124 81 108 81 174", "0 at -1 in 1 done 10: [1 10]", S1, K1);
     }
 }

@@ -12,18 +12,6 @@ public final class SpendingTest {
         check.finish();
     }
 
-    private static int hash(int... bytes) {
-        int h = 17;
-        for (int b : bytes) {
-            h = h * 31 + b;
-        }
-        return h;
-    }
-
-    private static String lock(int h) {
-        return "169 4 " + (h & 255) + " " + (h >> 8 & 255) + " " + (h >> 16 & 255) + " " + (h >> 24 & 255) + " 135";
-    }
-
     private static void twoScripts() {
         check.spend("", "", "16 at 0 in 1 done 0: []");
         check.spend("81", "", "0 at -1 in 1 done 1: [1]");
@@ -38,63 +26,48 @@ public final class SpendingTest {
     }
 
     private static void scriptFromStack() {
-        check.spend("2 81 135", lock(hash(81, 135)), "11 at 1 in 2 done 5: [1]");
-        check.spend("81 2 81 135", lock(hash(81, 135)), "0 at -1 in 2 done 7: [1]");
-        check.spend("82 2 81 135", lock(hash(81, 135)), "16 at 2 in 2 done 7: [e]");
-        check.spend("82 2 81 135", lock(hash(81, 136)), "16 at 7 in 1 done 5: [e 2]");
+        check.spend("2 81 135", Check.lock("81 135"), "11 at 1 in 2 done 5: [1]");
+        check.spend("81 2 81 135", Check.lock("81 135"), "0 at -1 in 2 done 7: [1]");
+        check.spend("82 2 81 135", Check.lock("81 135"), "16 at 2 in 2 done 7: [e]");
+        check.spend("82 2 81 135", Check.lock("81 136"), "16 at 7 in 1 done 5: [e 2]");
         // An empty script leaves what is below it.
-        check.spend("82 0", lock(hash()), "0 at -1 in 2 done 5: [2]");
-        check.spend("0", lock(hash()), "16 at 0 in 2 done 4: []");
-        check.spend("0 0", lock(hash()), "16 at 0 in 2 done 5: [e]");
-        check.spend("", lock(hash()), "11 at 0 in 1 done 0: []");
+        check.spend("82 0", Check.lock(""), "0 at -1 in 2 done 5: [2]");
+        check.spend("0", Check.lock(""), "16 at 0 in 2 done 4: []");
+        check.spend("0 0", Check.lock(""), "16 at 0 in 2 done 5: [e]");
+        check.spend("", Check.lock(""), "11 at 0 in 1 done 0: []");
         // Faults inside script 2; a byte from 97 on is an operation there.
-        check.spend("82 2 97 33", lock(hash(97, 33)), "2 at 1 in 2 done 6: [2]");
-        check.spend("82 2 97 98", lock(hash(97, 98)), "2 at 1 in 2 done 6: [2]");
-        check.spend("82 3 97 2 7", lock(hash(97, 2, 7)), "3 at 1 in 2 done 6: [2]");
-        check.spend("82 3 97 1 7", lock(hash(97, 1, 7)), "5 at 1 in 2 done 6: [2]");
-        check.spend("82 2 97 99", lock(hash(97, 99)), "7 at 2 in 2 done 7: []");
-        check.spend("82 2 97 103", lock(hash(97, 103)), "7 at 1 in 2 done 6: [2]");
-        check.spend("82 2 97 106", lock(hash(97, 106)), "10 at 1 in 2 done 6: [2]");
-        check.spend("82 32 97x32", lock(hashOf(97, 32)), "6 at 25 in 2 done 30: [2]");
-        check.spend("82 25 97x25", lock(hashOf(97, 25)), "0 at -1 in 2 done 30: [2]");
-        check.spend("82 32 81x32", lock(hashOf(81, 32)), "14 at 29 in 2 done 34: [1" + " 1".repeat(28) + " 2]");
+        check.spend("82 2 97 33", Check.lock("97 33"), "2 at 1 in 2 done 6: [2]");
+        check.spend("82 2 97 98", Check.lock("97 98"), "2 at 1 in 2 done 6: [2]");
+        check.spend("82 3 97 2 7", Check.lock("97 2 7"), "3 at 1 in 2 done 6: [2]");
+        check.spend("82 3 97 1 7", Check.lock("97 1 7"), "5 at 1 in 2 done 6: [2]");
+        check.spend("82 2 97 99", Check.lock("97 99"), "7 at 2 in 2 done 7: []");
+        check.spend("82 2 97 103", Check.lock("97 103"), "7 at 1 in 2 done 6: [2]");
+        check.spend("82 2 97 106", Check.lock("97 106"), "10 at 1 in 2 done 6: [2]");
+        check.spend("82 32 97x32", Check.lock("97x32"), "6 at 25 in 2 done 30: [2]");
+        check.spend("82 25 97x25", Check.lock("97x25"), "0 at -1 in 2 done 30: [2]");
+        check.spend("82 32 81x32", Check.lock("81x32"), "14 at 29 in 2 done 34: [1" + " 1".repeat(28) + " 2]");
         // It runs once only, even if it has the form itself.
-        check.spend("81 7 169 4 1 2 3 4 135", lock(hash(169, 4, 1, 2, 3, 4, 135)), "16 at 7 in 2 done 8: [e]");
-        String inner = lock(hash(81));
-        check.spend("1 81 7 " + inner, lock(hashOfScript(inner)), "0 at -1 in 2 done 8: [1]");
+        check.spend("81 7 169 4 1 2 3 4 135", Check.lock("169 4 1 2 3 4 135"), "16 at 7 in 2 done 8: [e]");
+        String inner = Check.lock("81");
+        check.spend("1 81 7 " + inner, Check.lock(inner), "0 at -1 in 2 done 8: [1]");
         // Script 1 needs one item more than script 0 left.
-        check.spend("81x29 0", lock(hash()), "14 at 1 in 1 done 31: [17.0.0.0" + " 1".repeat(29) + "]");
-        check.spend("81x28 0", lock(hash()), "0 at -1 in 2 done 32: [1" + " 1".repeat(27) + "]");
-    }
-
-    private static int hashOf(int b, int times) {
-        int[] bytes = new int[times];
-        java.util.Arrays.fill(bytes, b);
-        return hash(bytes);
-    }
-
-    private static int hashOfScript(String script) {
-        return hash(java.util.Arrays.stream(script.split(" ")).mapToInt(Integer::parseInt).toArray());
+        check.spend("81x29 0", Check.lock(""), "14 at 1 in 1 done 31: [17.0.0.0" + " 1".repeat(29) + "]");
+        check.spend("81x28 0", Check.lock(""), "0 at -1 in 2 done 32: [1" + " 1".repeat(27) + "]");
     }
 
     private static void notTheForm() {
-        String h = lock(hash(81, 135));
+        String h = Check.lock("81 135");
         check.spend("82 2 81 135", h + " 97", "0 at -1 in 1 done 6: [1 2]");
         check.spend("82 2 81 135", "97 " + h, "0 at -1 in 1 done 6: [1 2]");
         check.spend("82 2 81 135", h.replace(" 135", " 136"), "0 at -1 in 1 done 5: [2]");
         check.spend("82 2 81 135", "118 4 1 2 3 4 136", "9 at 6 in 1 done 4: [1.2.3.4 81.135 81.135 2]");
-        check.spend("82 2 81 135", "169 3 1 2 3 81 135", "16 at 7 in 1 done 6: [e " + digestOf(81, 135) + " 2]");
-        check.spend("81", "169 5 1 2 3 4 135", "0 at -1 in 1 done 3: [1.2.3.4.135 " + digestOf(1) + "]");
-    }
-
-    private static String digestOf(int... bytes) {
-        int h = hash(bytes);
-        return (h & 255) + "." + (h >> 8 & 255) + "." + (h >> 16 & 255) + "." + (h >> 24 & 255);
+        check.spend("82 2 81 135", "169 3 1 2 3 81 135", "16 at 7 in 1 done 6: [e " + Check.digest("81 135") + " 2]");
+        check.spend("81", "169 5 1 2 3 4 135", "0 at -1 in 1 done 3: [1.2.3.4.135 " + Check.digest("1") + "]");
     }
 
     private static void eachScriptAnew() {
         // The operations met are counted for each script of its own.
-        String counted = lock(hashOf(97, 25));
+        String counted = Check.lock("97x25");
         check.spend("82 25 97x25", counted, "0 at -1 in 2 done 30: [2]");
         // The second stack is empty at first, also behind a spending that left something there.
         SpendScript y = Check.fed("82 81", "107");
@@ -132,7 +105,7 @@ public final class SpendingTest {
         x.digest(0, 0, 0);
         check.due("after confirm()", Check.outcome(x), "10 at 1 in 1 done 3: [2]");
         Check.feed(x, 0, "81 0");
-        Check.feed(x, 1, lock(hash()));
+        Check.feed(x, 1, Check.lock(""));
         check.due("spend", x.spend(), 0);
         check.due("after none", Check.outcome(x), "0 at -1 in 2 done 5: [1]");
         x.clear(0);
